@@ -776,7 +776,7 @@ public final class CoilStairs {
             return fault == NO_FAULT;
         }
 
-        /** Is there a TOKEN more? Then it begins where the reader is. */
+        /** Behind the last TOKEN the reader is at the text's length: the FAULT, if it ends too early. */
         private boolean findToken() {
             while (at < letters && text[at] == ' ') {
                 at++;
@@ -835,10 +835,7 @@ public final class CoilStairs {
             if (fault != NO_FAULT) {
                 return lowest;
             }
-            if (!findToken()) {
-                fault = letters;
-                return lowest;
-            }
+            findToken();
             int start = at;
             int value = 0;
             while (at < letters && within(text[at], '0', '9')) {
@@ -856,13 +853,11 @@ public final class CoilStairs {
             if (fault != NO_FAULT) {
                 return;
             }
-            if (!findToken()) {
-                fault = letters;
-            } else if (text[at] != ';') {
-                fault = at;
-            } else {
+            if (findToken() && text[at] == ';') {
                 at++;
                 items++;
+            } else {
+                fault = at;
             }
         }
     }
