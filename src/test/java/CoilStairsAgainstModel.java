@@ -199,7 +199,7 @@ public final class CoilStairsAgainstModel {
         case "step": return !step(a[0]) || !in(a[1], 0, 2) ? -1
             : a[1] == 0 ? steps.get(a[0]).high : a[1] == 1 ? steps.get(a[0]).deep : now.mats.get(a[0]);
         case "now": return now(a[0]);
-        case "flips": return floor() || now.vigour == 0 ? -2 : done(flip(now, stiff, drag, new int[1])).place;
+        case "flips": return floor() || now.vigour == 0 || now.flips == 999 ? -2 : done(flip(now, stiff, drag, new int[1])).place;
         case "pushes": return !in(a[0], 1, 20) ? -1 : floor() ? -2
             : done(now.at(now.place, Math.min(99, now.vigour + a[0]))).vigour;
         case "lifts": return lifts(a[0]);
