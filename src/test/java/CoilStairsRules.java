@@ -182,7 +182,7 @@ public final class CoilStairsRules {
     return all;
   }
 
-  /** Some 120 calls, of the 512 for which an object is used. */
+  /** Some hundred calls, of the 512 for which an object is used. */
   private static void everyCall(CoilStairs x) {
     letters(x);
     kept += x.stairs() + x.pushes(20) + x.step(0, 2) + x.push(8) + x.mat(8, 3) + x.odds(3, 0);
